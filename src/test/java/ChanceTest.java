@@ -139,6 +139,9 @@ public final class ChanceTest {
         lotsAre("s0014;", 2, 5, 24, 1);
         lotsAre("s0525;", 1, 5, 24, 1);
         lotsAre("s0520;", 1, 5, 21, 1);
+        // From 24 there behind 4 hours, from 14 behind 6, and at 25 it is QUIET.
+        lotsAre("s0520;", 2, 5, 21 + 19, 2);
+        lotsAre("s0520;", 3, 5, 21 + 19, 2);
         // JOY that it has now is not counted.
         lotsAre("s0520;i20;h09;i15;q0;", 1, 5, 21, 1);
     }

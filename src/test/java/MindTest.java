@@ -148,6 +148,11 @@ public final class MindTest {
             due.is("farthest(" + n + ", 0)", bay.farthest(n, 0), want[n][0]);
             due.is("farthest(" + n + ", 1)", bay.farthest(n, 1), want[n][1]);
         }
+        TowardTheLoudest upwards = Due.told("s0518;");
+        for (int n = 0; n < 6; n++) {
+            due.is("farthest(" + n + ", 0), upwards", upwards.farthest(n, 0), 15);
+            due.is("farthest(" + n + ", 1), upwards", upwards.farthest(n, 1), Math.min(18, 15 + n));
+        }
         due.is("farthest(99, 1)", Due.told("s0529;").farthest(99, 1), 29);
         due.is("farthest(99, 0)", Due.told("s0529;").farthest(99, 0), 15);
         due.is("farthest(-1, 2)", bay.farthest(-1, 2), -4);

@@ -118,6 +118,8 @@ public final class NowTest {
         due.is("shared(0) by four", bay.shared(0), 0);
         due.is("shared(1) by four", bay.shared(1), 3);
         due.is("shared(2) by four", bay.shared(2), 13);
+        due.is("shared(0) by one", Due.told("s0510;h09;").shared(0), 5);
+        due.is("shared(1) by one", Due.told("s0510;h09;").shared(1), 0);
         due.is("shared(3)", bay.shared(3), -2);
         due.is("shared(-1)", bay.shared(-1), -2);
         TowardTheLoudest none = new TowardTheLoudest();
@@ -131,6 +133,8 @@ public final class NowTest {
         TowardTheLoudest bay = Due.told(ONE_OF_EACH);
         due.is("loudHour(0), the least of two", bay.loudHour(0), 7);
         due.is("loudHour(1)", bay.loudHour(1), 0);
+        due.is("loudHour(0), a CANNON of FIGURE 1", Due.told("s4120;s0110;").loudHour(0), 1);
+        due.is("loudHour(0), a CANNON of FIGURE 0", Due.told("s4020;s0110;").loudHour(0), 0);
         bay.powders(4, 0);
         due.is("loudHour(0), without the CANNON", bay.loudHour(0), 10);
         bay.powders(4, 5);
@@ -154,6 +158,7 @@ public final class NowTest {
         meanIs(bay, 0, 1);
         bay.shore(0, 0, 0);
         meanIs(bay, 0, 1);
+        meanIs(Due.told("s0007;"), 7, 1);
         bay.shore(0, 0, 15);
         meanIs(bay, 15, 2);
         bay.shore(0, 0, 30);

@@ -44,6 +44,9 @@ public final class WishTest {
         held.hushes(0);
         due.is("hush(2, 7), as one is QUIET anyway", held.hush(2, 7), 1);
         due.is("hush(2, 4), as one is QUIET anyway", held.hush(2, 4), -9);
+        // Not QUIET any more, the one at 5 would draw it by 10; but it stays QUIET.
+        due.is("hush(0, 9) of one that is QUIET", Due.told("s0010;s0905;q1;").hush(0, 9), -9);
+        due.is("fewest(0, 9) of one that is QUIET", Due.told("s0010;s0905;q1;").fewest(0, 9), -9);
         // The DRUM draws it by 19 behind 7 and 8 hours; the CANNON at 13 lets it be there behind 6 alone.
         TowardTheLoudest own = Due.told("s4119;s1723;");
         due.is("shoreBehind(0, 12, 0)", own.shoreBehind(0, 12, 0), 1);
@@ -68,6 +71,9 @@ public final class WishTest {
         due.is("fewest(2, 7), the least of two", heldUpTwice().fewest(2, 7), 1);
         due.is("fewest(2, 5), both", heldUpTwice().fewest(2, 5), 3);
         due.is("fewest(2, 9), none have to", heldUpTwice().fewest(2, 9), 0);
+        // QUIET itself it would be passed, too, as the BREATH draws it on from 13.
+        due.is("fewest(0, 12), itself not", Due.told("s1611;s5507;s3513;i30;v2;").fewest(0, 12), 4);
+        due.is("fewest(1, 12), itself not", Due.told("s5507;s1611;s3513;i30;v2;").fewest(1, 12), 4);
         due.is("fewest(0, 99), itself QUIET", Due.told("s0510;s0520;q0;").fewest(0, 99), -9);
         // The DRUM holds it up at 8 and 10, the CANNONS at 9 and 13: 2 hours each, of 10.
         TowardTheLoudest held = Due.told("s4900;p005;s4101;p105;s1902;p202;s0525;");
@@ -142,6 +148,10 @@ public final class WishTest {
         TowardTheLoudest bay = Due.told("s0300;s0314;");
         newShoreIs(bay, 0, 0, 1, 0);
         newShoreIs(bay, 0, 1, 16, 1);
+        // Just louder than the FALLS, where it is no nearer.
+        newShoreIs(Due.told("s2014;"), 0, 1, 16, 1);
+        newShoreIs(Due.told("i30;"), 4, 9, 30, 9);
+        newShoreIs(Due.told("i00;"), 4, 9, 0, 9);
         // It is drawn to 0, by 14 behind 1 hour: that is where a CANNON without a sound has it.
         newShoreIs(Due.told("s0600;"), 4, 1, 14, 1);
         // At 1 it is behind 14, 16, .. hours: from 0 it is drawn back each time.
