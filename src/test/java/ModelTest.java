@@ -16,7 +16,7 @@ public final class ModelTest {
     private static final int[] EXTREMES =
         {Integer.MIN_VALUE, -2147483647, -4096, -1, 96, 100, 256, 512, 65536, Integer.MAX_VALUE};
 
-    /** The greatest number that each argument may well be, and the least if it is not 0. */
+    /** The greatest number that each argument may well be. */
     private static final Map<String, int[]> GREATEST = Map.ofEntries(
         Map.entry("feed", new int[] {255}), Map.entry("shoreOf", new int[] {6, 7}),
         Map.entry("isleOf", new int[] {2}), Map.entry("shore", new int[] {5, 9, 30}),
