@@ -1,6 +1,7 @@
 /** Compares answers with those that are due, and tells at the end whether one was not. */
 final class Due {
     private final String test;
+    private String words = "";
     private int looked;
     private int wrong;
 
@@ -8,20 +9,28 @@ final class Due {
         this.test = test;
     }
 
+    /** What is looked at from here on stands in these words of the document (SentencesTest). */
+    void says(String words) {
+        this.words = words;
+    }
+
     void is(String call, long got, long want) {
         looked++;
         if (got != want) {
-            wrong++;
-            System.out.println(test + ": " + call + " answered " + got + ", due is " + want);
+            isWrong(call + " answered " + got + ", due is " + want);
         }
     }
 
     void holds(String what, boolean isSo) {
         looked++;
         if (!isSo) {
-            wrong++;
-            System.out.println(test + ": it does not hold that " + what);
+            isWrong("it does not hold that " + what);
         }
+    }
+
+    private void isWrong(String what) {
+        wrong++;
+        System.out.println(test + ": " + what + (words.isEmpty() ? "" : "; the document says: " + words));
     }
 
     void end() {
