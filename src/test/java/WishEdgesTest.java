@@ -261,6 +261,7 @@ public final class WishEdgesTest {
         swapIs("s0510;", 0, 99, -9);
         swapIs("s0510;s0530;q0;q1;", 0, 99, -9);
         // Its own PLACE, too, and the two of the greatest numbers.
+        swapIs("s0016;s0020;s0530;", 2, 1, 2);
         swapIs("s0010;s0920;s0018;", 0, 2, -9);
         swapIs("s0010;s0920;s0018;", 0, 3, 2);
         swapIs("s0900;s0001;s0002;s0003;s0004;s0020;s0014;", 5, 1, 56);
