@@ -1284,7 +1284,7 @@ public final class TowardTheLoudest {
         }
 
         private static int drawn(int seed, int n) {
-            return ((seed & 0x7fffffff) >> 16) % n;
+            return n < 1 ? 0 : ((seed & 0x7fffffff) >> 16) % n;
         }
     }
 }

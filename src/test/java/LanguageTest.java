@@ -1,7 +1,10 @@
+import com.sun.source.tree.BinaryTree;
 import com.sun.source.tree.BlockTree;
 import com.sun.source.tree.ClassTree;
 import com.sun.source.tree.CompilationUnitTree;
+import com.sun.source.tree.DoWhileLoopTree;
 import com.sun.source.tree.ExpressionTree;
+import com.sun.source.tree.ForLoopTree;
 import com.sun.source.tree.IdentifierTree;
 import com.sun.source.tree.LiteralTree;
 import com.sun.source.tree.MemberSelectTree;
@@ -45,11 +48,14 @@ public final class LanguageTest {
         "Integer.bitCount");
     private static final Set<Tree.Kind> FORBIDDEN = EnumSet.of(Tree.Kind.THROW, Tree.Kind.TRY,
         Tree.Kind.SYNCHRONIZED, Tree.Kind.ASSERT, Tree.Kind.LAMBDA_EXPRESSION, Tree.Kind.MEMBER_REFERENCE,
-        Tree.Kind.IMPORT, Tree.Kind.PACKAGE, Tree.Kind.TYPE_CAST, Tree.Kind.WHILE_LOOP, Tree.Kind.ANNOTATION);
+        Tree.Kind.IMPORT, Tree.Kind.PACKAGE, Tree.Kind.TYPE_CAST, Tree.Kind.WHILE_LOOP, Tree.Kind.ANNOTATION,
+        Tree.Kind.DIVIDE_ASSIGNMENT, Tree.Kind.REMAINDER_ASSIGNMENT, Tree.Kind.INSTANCE_OF,
+        Tree.Kind.ENHANCED_FOR_LOOP, Tree.Kind.LABELED_STATEMENT);
     private static final int DEEPEST = 8;
 
     private final Due due = new Due("LanguageTest");
     private final Map<String, Set<String>> calls = new HashMap<>();
+    private final Set<String> types = new HashSet<>(Set.of("int", "long", "boolean", "int[]"));
     private CompilationUnitTree file;
     private SourcePositions positions;
 
@@ -113,6 +119,7 @@ public final class LanguageTest {
         }
         lookAtMembers(face, false);
         due.holds("there are some twelve classes: " + classes, classes <= 12);
+        lookAtTypes(face);
         new TreeScanner<Void, Void>() {
             @Override
             public Void scan(Tree tree, Void nothing) {
@@ -129,6 +136,38 @@ public final class LanguageTest {
                 return null;
             }
         }.scan(file, null);
+    }
+
+    /** Numbers, rows of them, and the classes inside, alone or in a row. */
+    private void lookAtTypes(ClassTree face) {
+        for (Tree member : face.getMembers()) {
+            if (member instanceof ClassTree) {
+                types.add(((ClassTree) member).getSimpleName().toString());
+                types.add(((ClassTree) member).getSimpleName() + "[]");
+            }
+        }
+        new TreeScanner<Void, Void>() {
+            @Override
+            public Void visitVariable(VariableTree variable, Void nothing) {
+                due.holds("it is of a type that may be: " + variable, types.contains(variable.getType().toString()));
+                return super.visitVariable(variable, nothing);
+            }
+
+            @Override
+            public Void visitMethod(MethodTree method, Void nothing) {
+                Tree answer = method.getReturnType();
+                due.holds("it answers a type that may be: " + method, answer == null
+                    || answer.toString().equals("void") || types.contains(answer.toString()));
+                return super.visitMethod(method, nothing);
+            }
+
+            @Override
+            public Void visitClass(ClassTree type, Void nothing) {
+                due.holds("it stands under no other one: " + type.getSimpleName(),
+                    type.getExtendsClause() == null && type.getImplementsClause().isEmpty());
+                return super.visitClass(type, nothing);
+            }
+        }.scan(face, null);
     }
 
     private void lookAtMembers(ClassTree type, boolean inside) {
@@ -180,7 +219,39 @@ public final class LanguageTest {
                 due.holds("no local class", false);
                 return null;
             }
+
+            @Override
+            public Void visitForLoop(ForLoopTree loop, Void nothing) {
+                due.holds("its end can be seen: " + loop, hasBound(loop.getCondition()) && loop.getUpdate().size() == 1);
+                return super.visitForLoop(loop, nothing);
+            }
+
+            @Override
+            public Void visitDoWhileLoop(DoWhileLoopTree loop, Void nothing) {
+                due.holds("its end can be seen: " + loop, hasBound(loop.getCondition()));
+                return super.visitDoWhileLoop(loop, nothing);
+            }
+
+            @Override
+            public Void visitBinary(BinaryTree of, Void nothing) {
+                if (of.getKind() == Tree.Kind.DIVIDE || of.getKind() == Tree.Kind.REMAINDER) {
+                    due.holds("its divisor is looked at: " + of, isLookedAt(of.getRightOperand().toString(), method));
+                }
+                return super.visitBinary(of, nothing);
+            }
         }.scan(method.getBody(), null);
+    }
+
+    private static boolean hasBound(Tree condition) {
+        return condition != null && condition.toString().matches("(?s).* <=? .*");
+    }
+
+    /** A divisor is a constant, or a name that its method tells from 0. */
+    private static boolean isLookedAt(String divisor, MethodTree method) {
+        boolean isConstant = divisor.matches("[1-9][0-9]*|[A-Z_]+|\\([A-Z_]+ \\+ 1\\)");
+        String text = method.getBody().toString();
+        return isConstant || text.contains(divisor + " < 1") || text.contains(divisor + " != 0")
+            || text.contains(divisor + " = Math.max(1, ");
     }
 
     private long line(long position) {

@@ -13,6 +13,7 @@ import java.util.Random;
  */
 public final class ModelTest {
     private static final int CALLS = 512;
+    private static final int RUNS = 150;
     private static final int[] EXTREMES =
         {Integer.MIN_VALUE, -2147483647, -4096, -1, 96, 100, 256, 512, 65536, Integer.MAX_VALUE};
 
@@ -46,7 +47,7 @@ public final class ModelTest {
     private int calls;
 
     public static void main(String[] args) throws ReflectiveOperationException {
-        int runs = args.length > 1 ? Integer.parseInt(args[1]) : 300;
+        int runs = args.length > 1 ? Integer.parseInt(args[1]) : RUNS;
         new ModelTest().goThrough(runs);
     }
 

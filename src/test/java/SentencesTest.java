@@ -9,8 +9,8 @@ import java.util.stream.Stream;
 
 /**
  * That no sentence of the document is without a test: the words that the tests look at, as they
- * tell Due.says(), stand in ../shared/DOC.md, and of what it says between "Terms" and "Not promised"
- * none are left out. The class's file is the argument, from which the way to the rest is known.
+ * tell Due.says(), stand in ../shared/DOC.md, and of what it says from its first line to its last none
+ * are left out. The class's file is the argument, from which the way to the rest is known.
  */
 public final class SentencesTest {
     private static final Pattern SAYS =
@@ -19,11 +19,9 @@ public final class SentencesTest {
 
     public static void main(String[] args) throws IOException {
         Due due = new Due("SentencesTest");
-        Path main = Path.of(args.length > 0 ? args[0] : "src/main/java/TowardTheLoudest.java").toAbsolutePath();
-        Path root = main.getParent().getParent().getParent().getParent();
-        String document = document(Files.readString(root.resolve("../shared/DOC.md")));
+        String document = inOneLine(Project.document(args));
         boolean[] lookedAt = new boolean[document.length()];
-        for (String words : told(root.resolve("src/test/java"))) {
+        for (String words : told(Project.root(args).resolve("src/test/java"))) {
             int at = document.indexOf(words);
             due.holds("the document says: " + words, at >= 0);
             due.holds("the document says it once: " + words, at == document.lastIndexOf(words));
@@ -37,10 +35,10 @@ public final class SentencesTest {
         due.end();
     }
 
-    /** The document without its headings, in one line. */
-    private static String document(String text) {
-        String told = text.substring(text.indexOf("## Terms"), text.indexOf("## Not promised"));
-        told = told.replaceAll("(?m)^(##|```).*$", "").replaceAll("==== I[IV]*\\.", "");
+    /** The document without its headings, and without the face, which FaceTest reads there itself. */
+    private static String inOneLine(String text) {
+        String told = text.replaceAll("(?s)```java.*?```", "");
+        told = told.replaceAll("(?m)^(#|```).*$", "").replaceAll("==== I[IV]*\\.", "");
         return told.replaceAll("\\s+", " ").trim();
     }
 
